@@ -84,9 +84,9 @@ public final class FluteParkModel {
                 if (random.nextInt(3) > 0) {
                     tell();
                 }
-                int many = random.nextInt(40);
+                int many = random.nextInt(60);
                 for (int i = 0; i < many && calls < CALLS - 60; i++) {
-                    call(random.nextInt(25));
+                    call(random.nextInt(30) == 0 ? random.nextInt(4) : 4 + random.nextInt(21));
                 }
             }
             for (int what = 0; what < 9; what++) {
@@ -95,6 +95,10 @@ public final class FluteParkModel {
         }
 
         void tell() {
+            // What is left of an earlier text mostly spoils the next one.
+            if (model.text.length() > 0 && random.nextInt(6) > 0) {
+                call(1);
+            }
             String text = new Texts(random, flaws).make(model);
             for (int i = 0; i < text.length() && calls < CALLS - 60; i += 8) {
                 int n = Math.min(8, text.length() - i);
@@ -111,9 +115,6 @@ public final class FluteParkModel {
             }
             call(2);
             call(3);
-            if (model.text.length() > 0 && random.nextInt(5) > 0) {
-                call(1);
-            }
         }
 
         void write(long bytes, int n) {
@@ -305,7 +306,7 @@ public final class FluteParkModel {
             StringBuilder text = new StringBuilder();
             int lines = random.nextInt(40) == 0 ? 13 : 1 + random.nextInt(12);
             for (int i = 0; i < lines && text.length() < 190; i++) {
-                text.append(i > 0 ? ";" : "").append(i == 0 && random.nextInt(3) > 0 ? park() : line());
+                text.append(i > 0 ? ";" : "").append(firstOf(i));
             }
             if (random.nextInt(flaws) == 0) {
                 text.setCharAt(random.nextInt(text.length()), (char) random.nextInt(256));
@@ -314,6 +315,20 @@ public final class FluteParkModel {
                 text.setLength(random.nextInt(text.length() + 1));
             }
             return text.toString();
+        }
+
+        /** The first lines lay the park and make a walk more often than not. */
+        String firstOf(int i) {
+            if (i == 0 && random.nextInt(3) > 0) {
+                return park();
+            }
+            return i == 1 && random.nextInt(2) > 0 ? walk(w * h) : line();
+        }
+
+        String walk(int places) {
+            int p = random.nextInt(4) == 0 ? any(places) : random.nextInt(2);
+            int q = random.nextInt(flaws * 4) == 0 ? any(places) : Math.min(places - 1, p + any(places));
+            return word("walk") + number(p) + blank() + number(q);
         }
 
         String park() {
@@ -333,7 +348,7 @@ public final class FluteParkModel {
                 case 0:
                     return word("fall") + number(random.nextInt(4) == 0 ? any(11) : 1 + random.nextInt(4));
                 case 1:
-                    return word("flute") + number(any(places)) + blank() + number(40 + any(60));
+                    return word("flute") + number(any(places)) + blank() + number(20 + any(70));
                 case 2:
                     return bands == 0 ? band(places) : word("worth") + number(any(bands)) + blank() + number(any(100));
                 case 3:
@@ -344,9 +359,7 @@ public final class FluteParkModel {
                 case 6:
                 case 7:
                 case 8:
-                    int p = any(places);
-                    int q = random.nextInt(flaws * 4) == 0 ? any(places) : Math.min(places - 1, p + any(places));
-                    return word("walk") + number(p) + blank() + number(q);
+                    return walk(places);
                 case 9:
                     if (random.nextInt(5) == 0) {
                         bands = 0;
@@ -363,7 +376,7 @@ public final class FluteParkModel {
             int a = any(12);
             int b = random.nextInt(flaws * 4) == 0 ? any(12) : a + random.nextInt(Math.max(1, 12 - a));
             bands++;
-            int loud = random.nextInt(3) == 0 ? any(100) : any(30);
+            int loud = random.nextInt(3) == 0 ? any(100) : any(45);
             return word(kinds[random.nextInt(4)]) + number(any(places)) + blank() + number(loud)
                     + blank() + number(a) + blank() + number(b);
         }
