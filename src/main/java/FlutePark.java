@@ -475,7 +475,7 @@ public final class FlutePark {
 
     /** What texts have told: the places, the flute, the bands. */
     private static final class Park {
-        static final int PLAIN = 0, BRASS = 1, CHOIR = 2, DRUM = 3;
+        static final int BRASS = 1, CHOIR = 2, DRUM = 3;
         static final int KIND = 0, PLACE = 1, LOUD = 2, FIRST_HOUR = 3, LAST_HOUR = 4, WORTH = 5, SIDE = 6, TRAITS = 7;
         private static final int UP = 0, RIGHT = 1, DOWN = 2;
 
@@ -695,9 +695,6 @@ public final class FlutePark {
             for (int place = 0; place < places; place++) {
                 fluteSounds[place] = park.fluteSound(place);
             }
-            for (int hour = 0; hour < HOURS; hour++) {
-                playing[hour] = 0;
-            }
             for (int band = 0; band < park.bands; band++) {
                 listenToBand(park, band);
             }
@@ -815,7 +812,6 @@ public final class FlutePark {
         }
 
         void rewind() {
-            tokenStart = 0;
             tokenEnd = 0;
         }
 

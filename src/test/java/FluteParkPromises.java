@@ -83,6 +83,7 @@ public final class FluteParkPromises {
         hedges();
         margins();
         ways();
+        longWay();
         winds();
         sightings();
         counts();
@@ -174,6 +175,10 @@ public final class FluteParkPromises {
         dueFault("gate 3", 0);
         dueFault("still; gate", 7);
         dueFault("4 4", 0);
+        dueFault("stillz", 0);
+        dueFault("stilla", 0);
+        dueFault("zstill", 0);
+        dueFault("fall 1z", 6);
         dueFault("still\0", 5);
         dueFault("still\t", 5);
         dueFault("still\n;still", 5);
@@ -225,6 +230,12 @@ public final class FluteParkPromises {
         dueFault("brass 15 99 11 11", NONE);
         dueFault("choir 0 1 5 4", 12);
         dueFault("choir 0 1 5 5", NONE);
+        for (String kind : new String[] {"plain", "brass", "choir", " drum"}) {
+            dueFault(kind + " 0 1 5 4", 12);
+            dueFault(kind + " 0 1 0 0 0", 14);
+            dueFault(told("drum 0 1 0 0;drum 0 1 0 0;drum 0 1 0 0;drum 0 1 0 0;drum 0 1 0 0;drum 0 1 0 0"),
+                    kind + " 0 1 0 0", kind.indexOf(kind.trim()));
+        }
         dueFault("drum 16 1 0 0", 5);
         dueFault("drum 0 100 0 0", 7);
         dueFault("drum 0 1 12 12", 9);
@@ -572,6 +583,7 @@ public final class FluteParkPromises {
         due("none has sound: hour", y.first(0), 0);
         due("none has sound: place", y.first(1), 3);
         due("none has sound: band", y.first(2), NONE);
+        due("a sound of 1 is enough", told("flute 0 0;walk 0 0;drum 0 0 0 0;drum 0 1 0 0").first(2), 1);
         due("of several the least", told("walk 0 0;plain 0 1 0 0;plain 0 30 0 0;drum 0 30 0 0").first(2), 1);
         due("no walk: it holds", told("plain 0 99 0 11").first(0), NONE);
     }
@@ -673,6 +685,16 @@ public final class FluteParkPromises {
         for (int what : new int[] {-1, 2, LEAST, GREATEST}) {
             due("no such what", y.hedged(what), OUTSIDE);
         }
+        tell(y, "park 2 2;fall 1;flute 0 31;walk 0 0;plain 3 22 0 0;plain 1 11 0 0;plain 0 10 0 0");
+        due("3, not 0 and 1, whatever their order", y.hedged(1), 8);
+        tell(y, "park 2 3;fall 1;flute 0 48;walk 0 0;plain 2 20 0 0;plain 1 20 0 0;plain 3 20 0 0");
+        due("1, whatever their order", y.hedged(1), 2);
+        write(y, "park 3 3;walk 0 0;drum 0 99 0 0");
+        y.fault();
+        due("the text is not done yet: hedged", y.hedged(1), 2);
+        y.licence(2, 0);
+        y.fault();
+        due("the text is not done yet: stands", y.stands(0), 63);
         due("two bands by one hedge", told("walk 0 0;plain 1 30 0 0;plain 1 30 0 0").hedged(1), 2);
         due("a high place", told("park 6 6;walk 35 35;flute 35 50;plain 35 90 0 0").hedged(1), 1L << 35);
     }
@@ -737,6 +759,19 @@ public final class FluteParkPromises {
         tell(z, "park 3 3;walk 2 3");
         due("2 and 3 are not next", z.way(3), NONE);
         due("all the way", told("park 6 6;fall 1;walk 0 35").way(35), 10);
+    }
+
+    /** A corridor in which she has to wait for hour 0 again and again: 24 is 99 hours off, 30 is 100. */
+    private static void longWay() {
+        FlutePark x = told("park 6 6;fall 8;flute 21 88;brass 12 77 1 11;plain 28 55 2 11;side 0 1;"
+                + "walk 0 2;walk 8 11;walk 17 21;walk 23 30;walk 32 35");
+        due("a round of hours", x.way(1), 12);
+        due("behind many rounds", x.way(18), 98);
+        due("in 99", x.way(24), 99);
+        due("not in 99", x.way(30), NONE);
+        x.step(0);
+        due("an hour later: in 98", x.way(24), 98);
+        due("an hour later: in 99", x.way(30), 99);
     }
 
     private static void dueWind(FlutePark x, int place, int hour, int p, int above, int below) {
@@ -812,6 +847,17 @@ public final class FluteParkPromises {
         due("played 2", x.played(2), OUTSIDE);
         due("all sets", x.played(0), 8);
         x.forget();
+        due("at 1 it is 29 to 19 and 14", x.seen(1, 5, 0), 1);
+        due("0 and 1", x.played(1), 3);
+        due("at 3 it is 28 to 18 and 13", x.seen(3, 5, 0), 2);
+        due("two sets", x.played(0), 2);
+        tell(x, "drum 1 30 9 9");
+        due("at 1 not heard in hour 9", x.seen(1, 9, 0), 1);
+        due("the last", x.played(1), 8);
+        due("at 0 heard in hour 9", x.seen(0, 9, 1), 2);
+        due("by 29 it is", x.played(0), 8);
+        x.forget();
+        tell(x, "still;plain 0 20 0 5;plain 0 15 0 5;drum 0 40 6 6");
         due("not heard in hour 6", x.seen(0, 6, 0), 1);
         due("those with the drum", x.played(0), 4);
         due("the drum", x.played(1), 4);
