@@ -778,6 +778,8 @@ public final class FluteParkCallEdges {
         due("two: 3 with 1, not with 5", x.hedged(1), 10);
         x.licence(2, 0);
         due("one by licences", x.hedged(1), 8);
+        tell(x, "still;plain 5 25 0 0;plain 1 21 0 0;plain 3 43 0 0;flute 0 61");
+        due("one, not two that come ahead of it", x.hedged(1), 8);
     }
 
     // "MARGIN: the least of SOUND of THE FLUTE less NOISE over WALK and HOURS"; "MARGIN, and 1000"
@@ -1015,6 +1017,14 @@ public final class FluteParkCallEdges {
         y.forget();
         due("hour 11, not heard", y.seen(0, 11, 0), 1);
         due("1", y.played(1), 2);
+        // 50 to 27 at 0, 32 to 45 at 3.
+        FlutePark z = told("park 2 2;fall 9;drum 3 45 0 0");
+        due("not heard at the last place", z.seen(3, 0, 0), 1);
+        due("by the drum", z.played(1), 1);
+        due("heard at the first", z.seen(0, 0, 1), 2);
+        due("by the drum", z.played(0), 1);
+        due("not heard at the first", z.seen(0, 0, 0), 3);
+        due("by nothing", z.played(0), 0);
     }
 
     // "PLAYED: sets of BANDS by which all is so, if they and no others played: how many; those that are in all of them";
